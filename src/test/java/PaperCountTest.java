@@ -1,0 +1,357 @@
+/** Promises 8 to 12 and 14 by RULES 0 to 2; the numbers are reckoned by hand from the document. */
+public final class PaperCountTest {
+    private static final int NONE = SeatCounts.NONE, UNKNOWN = SeatCounts.UNKNOWN;
+    private static final int OUTSIDE = SeatCounts.OUTSIDE, STATE = SeatCounts.STATE;
+    private static final Due due = new Due("PaperCountTest");
+
+    public static void main(String[] args) {
+        oneSurplusThenOut();
+        twoSurplusesByEachRule();
+        lastParcelsBelowSurplus();
+        lastParcelsWithoutNext();
+        surplusesInOrder();
+        tiesByLots();
+        tiesByLatestStage();
+        tiesOfElected();
+        nobodyPrefersAnybody();
+        moreSeatsThanCandidates();
+        withdrawnOnes();
+        wholeQuota();
+        refusals();
+        countStays();
+        due.end();
+    }
+
+    /** 120 papers for 2 seats: QUOTA 41; 0 has 60, so the surplus is 19. */
+    private static SeatCounts oneSurplus(int rule) {
+        SeatCounts x = new SeatCounts();
+        x.candidates(4);
+        x.pile(0x321, 50);
+        x.pile(0x1, 10);
+        x.pile(0x32, 20);
+        x.pile(0x3, 22);
+        x.pile(0x14, 18);
+        due.is("count(" + rule + ", 2)", x.count(rule, 2), 4);
+        return x;
+    }
+
+    private static void oneSurplusThenOut() {
+        for (int rule = 0; rule < 2; rule++) {
+            String at = "one surplus, rule " + rule;
+            SeatCounts x = oneSurplus(rule);
+            due.stage(at, x, 0, 0, NONE, 0, 0, 1, 4100000, 0);
+            due.votes(at, x, 0, 6000000, 2000000, 2200000, 1800000);
+            due.status(at, x, 0, 1, 0, 0, 0);
+            due.stage(at, x, 1, 1, 0, 316660, 40, 1, 4100000, 0);
+            due.votes(at, x, 1, 4100000, 3583300, 2200000, 1800000);
+            due.lies(at, x, 0, 1, 0, 100000);
+            due.lies(at, x, 1, 0, 1, 31666);
+            due.lies(at, x, 1, 1, NONE, 0);
+            due.lies(at, x, 1, 2, 1, 100000);
+            due.stage(at, x, 2, 2, 3, 2116660, 40, 1, 4100000, 0);
+            due.status(at, x, 2, 1, 0, 0, 2);
+            due.lies(at, x, 2, 4, NONE, 0);
+            due.stage(at, x, 3, 2, 2, 4316660, 40, 2, 4100000, 0);
+            due.votes(at, x, 3, 4100000, 3583300, 0, 0);
+            due.status(at, x, 3, 1, 1, 2, 2);
+            due.elected(at, x, 0, 1);
+        }
+        String at = "one surplus, rule 2";
+        SeatCounts x = oneSurplus(2);
+        due.stage(at, x, 1, 1, 0, 0, 0, 1, 4100000, 0);
+        due.votes(at, x, 1, 4100000, 3900000, 2200000, 1800000);
+        due.lies(at, x, 1, 0, 1, 38000);
+        due.lies(at, x, 1, 1, 0, 100000);
+        due.stage(at, x, 3, 2, 2, 4000000, 0, 2, 4100000, 0);
+        due.elected(at, x, 0, 1);
+    }
+
+    /** 120 papers for 3 seats: QUOTA 31. 0 passes 29 on to 1, which passes a mix of values on. */
+    private static SeatCounts twoSurpluses(int rule) {
+        SeatCounts x = new SeatCounts();
+        x.candidates(4);
+        x.pile(0x321, 60);
+        x.pile(0x32, 20);
+        x.pile(0x2, 10);
+        x.pile(0x3, 12);
+        x.pile(0x4, 18);
+        due.is("two surpluses, count(" + rule + ", 3)", x.count(rule, 3), 3);
+        due.stage("two surpluses, rule " + rule, x, 1, 1, 0, 0, 20, 2, 3100000, 0);
+        due.votes("two surpluses, rule " + rule, x, 1, 3100000, 5899980, 1200000, 1800000);
+        due.elected("two surpluses, rule " + rule, x, 0, 1, 2);
+        return x;
+    }
+
+    private static void twoSurplusesByEachRule() {
+        SeatCounts x = twoSurpluses(0);
+        due.stage("rule 0", x, 2, 1, 1, 474570, 70, 3, 3100000, 0);
+        due.votes("rule 0", x, 2, 3100000, 3100000, 3525360, 1800000);
+        due.lies("rule 0", x, 2, 0, 2, 22937);
+        due.lies("rule 0", x, 2, 1, 2, 47457);
+        due.lies("rule 0", x, 2, 2, NONE, 0);
+
+        x = twoSurpluses(1);
+        due.stage("rule 1", x, 2, 1, 1, 311100, 100, 3, 3100000, 0);
+        due.votes("rule 1", x, 2, 3100000, 3100000, 3688800, 1800000);
+        due.lies("rule 1", x, 2, 0, 2, 31110);
+        due.lies("rule 1", x, 2, 1, 2, 31110);
+        due.lies("rule 1", x, 2, 2, NONE, 0);
+
+        x = twoSurpluses(2);
+        due.stage("rule 2", x, 2, 1, 1, 0, 40, 3, 3100000, 0);
+        due.votes("rule 2", x, 2, 3100000, 3100000, 3999960, 1800000);
+        due.lies("rule 2", x, 2, 0, 2, 46666);
+        due.lies("rule 2", x, 2, 1, 1, 100000);
+        due.lies("rule 2", x, 2, 2, 1, 100000);
+    }
+
+    /**
+     * QUOTA 31. At STAGE 1 1 gets 55 papers without a next one and 5 with, at 48333; 5 x 48333 is
+     * below the surplus of 2799980, so they keep their value and the rest is NOT TRANSFERABLE.
+     */
+    private static void lastParcelsBelowSurplus() {
+        SeatCounts x = new SeatCounts();
+        x.candidates(4);
+        x.pile(0x21, 55);
+        x.pile(0x321, 5);
+        x.pile(0x32, 30);
+        x.pile(0x3, 12);
+        x.pile(0x4, 18);
+        due.is("below surplus, count(2, 3)", x.count(2, 3), 4);
+        due.votes("below surplus", x, 1, 3100000, 5899980, 1200000, 1800000);
+        due.stage("below surplus", x, 2, 1, 1, 2558315, 20, 2, 3100000, 0);
+        due.votes("below surplus", x, 2, 3100000, 3100000, 1441665, 1800000);
+        due.lies("below surplus", x, 2, 0, 1, 48333);
+        due.lies("below surplus", x, 2, 1, 2, 48333);
+        due.lies("below surplus", x, 2, 2, 1, 100000);
+        due.stage("below surplus", x, 3, 2, 2, 3999980, 20, 3, 3100000, 0);
+        due.elected("below surplus", x, 0, 1, 3);
+    }
+
+    /** 30 papers for 0 alone, QUOTA 41 / 3 and 1 = 14: the whole surplus of 16 has nowhere to go. */
+    private static void lastParcelsWithoutNext() {
+        for (int rule = 0; rule < 3; rule++) {
+            String at = "no next one, rule " + rule;
+            SeatCounts x = new SeatCounts();
+            x.candidates(4);
+            x.pile(0x1, 30);
+            x.pile(0x2, 5);
+            x.pile(0x3, 6);
+            due.is(at, x.count(rule, 2), 4);
+            long value = 1600000 / 30;
+            long stuck = rule == 2 ? 1600000 : 30 * value;
+            due.stage(at, x, 1, 1, 0, stuck, 1600000 - stuck, 1, 1400000, 0);
+            due.votes(at, x, 1, 1400000, 500000, 600000, 0);
+            due.lies(at, x, 1, 0, rule == 2 ? 0 : NONE, rule == 2 ? 100000 : 0);
+            due.is(at + ": who has nothing goes OUT first", x.stage(2, 1), 3);
+            due.is(at + ": then the next", x.stage(3, 1), 1);
+            due.elected(at, x, 0, 2);
+        }
+    }
+
+    /** The larger surplus goes first, though the other one has the lower number and LOT. */
+    private static void surplusesInOrder() {
+        SeatCounts x = new SeatCounts();
+        x.candidates(6);
+        x.pile(0x31, 30);
+        x.pile(0x42, 40);
+        x.pile(0x5, 10);
+        x.pile(0x6, 10);
+        due.is("two at once", x.count(0, 3), 6);
+        due.is("QUOTA", x.stage(0, 5), 2300000);
+        due.elected("two at once", x, 1, 0, 3);
+        due.stage("two at once", x, 1, 1, 1, 0, 0, 2, 2300000, 0);
+        due.stage("two at once", x, 2, 1, 0, 0, 10, 2, 2300000, 0);
+        due.is("lies nowhere else", x.lies(1, 0, 0), 0);
+        due.is("value of 40", x.lies(1, 1, 1), 42500);
+        due.is("value of 30", x.lies(2, 0, 1), 23333);
+        due.is("who goes OUT", x.stage(3, 1), 2);
+        due.is("of two alike", x.stage(4, 1), 5);
+        due.is("and then", x.stage(5, 1), 4);
+    }
+
+    private static void tiesByLots() {
+        for (int rule = 0; rule < 4; rule++) {
+            SeatCounts x = new SeatCounts();
+            x.candidates(4);
+            x.pile(0x1, 5);
+            x.pile(0x2, 5);
+            x.pile(0x3, 5);
+            x.pile(0x4, 5);
+            x.lot(1, 0);
+            x.lot(3, 1);
+            due.is("LOTS, rule " + rule, x.count(rule, 2), 3);
+            int ahead = rule == 3 ? 0 : 1;
+            due.is("LOTS 3, 0, 2, 1, OUT first, rule " + rule, x.stage(ahead, 1), 0);
+            due.is("OUT next, rule " + rule, x.stage(ahead + 1, 1), 2);
+            due.elected("LOTS, rule " + rule, x, 1, 3);
+        }
+    }
+
+    /**
+     * 1 and 2 have 6 each behind STAGE 2. Behind STAGE 1 2 had more (6, 5), behind STAGE 0 1 had
+     * (5, 4), as by LOTS: the latest one counts. RULE 3 has LOTS alone.
+     */
+    private static void tiesByLatestStage() {
+        for (int rule = 0; rule < 4; rule++) {
+            String at = "latest stage, rule " + rule;
+            SeatCounts x = new SeatCounts();
+            x.candidates(5);
+            x.pile(0x1, 12);
+            x.pile(0x2, 5);
+            x.pile(0x3, 4);
+            x.pile(0x34, 2);
+            x.pile(0x25, 1);
+            x.pile(0x5, 2);
+            int stages = x.count(rule, 1);
+            int shift = rule == 3 ? 1 : 0;
+            due.is(at + ": first OUT", x.stage(1 - shift, 1), 3);
+            due.is(at + ": second OUT", x.stage(2 - shift, 1), 4);
+            due.is(at + ": like votes", x.votes(2, 1), x.votes(2, 2));
+            due.is(at + ": third OUT", x.stage(3 - shift, 1), rule == 3 ? 2 : 1);
+            due.elected(at, x, 0);
+            due.is(at + ": stages", stages, rule == 3 ? 4 : 5);
+        }
+    }
+
+    /** 0 and 1 both get 61 at STAGE 1; 1 had more behind STAGE 0, so it is first, and its surplus, too. */
+    private static void tiesOfElected() {
+        SeatCounts x = new SeatCounts();
+        x.candidates(6);
+        x.pile(0x1, 50);
+        x.pile(0x2, 51);
+        x.pile(0x13, 11);
+        x.pile(0x23, 10);
+        x.pile(0x4, 30);
+        x.pile(0x5, 30);
+        x.pile(0x6, 30);
+        due.is("212 papers, 3 seats", x.count(0, 3), 6);
+        due.stage("ties of elected", x, 1, 2, 2, 0, 0, 2, 5400000, 0);
+        due.votes("ties of elected", x, 1, 6100000, 6100000, 0, 3000000, 3000000, 3000000);
+        due.stage("ties of elected", x, 2, 1, 1, 699975, 25, 2, 5400000, 0);
+        due.stage("ties of elected", x, 3, 1, 0, 1399950, 50, 2, 5400000, 0);
+        due.elected("ties of elected", x, 1, 0, 3);
+
+        x = new SeatCounts();
+        x.candidates(6);
+        x.pile(0x41, 8);
+        x.pile(0x42, 8);
+        x.pile(0x3, 1);
+        x.pile(0x5, 3);
+        x.lot(1, 0);
+        x.count(0, 3);
+        due.elected("like at STAGE 0: LOTS", x, 1, 0, 3);
+        due.is("whose surplus is first", x.stage(1, 1), 1);
+        due.is("whose is next", x.stage(2, 1), 0);
+    }
+
+    private static void nobodyPrefersAnybody() {
+        SeatCounts x = new SeatCounts();
+        for (int rule = 0; rule < 3; rule++) {
+            due.is("no PILES, rule " + rule, x.count(rule, 1), 3);
+            due.stage("no PILES", x, 0, 0, NONE, 0, 0, 0, 100000, 0);
+            due.stage("no PILES", x, 1, 2, 2, 0, 0, 0, 100000, 0);
+            due.stage("no PILES", x, 2, 2, 1, 0, 0, 1, 100000, 0);
+            due.status("no PILES", x, 2, 1, 2, 2);
+            due.elected("no PILES", x, 0);
+            due.is("no PILE lies", x.lies(0, 0, 0), UNKNOWN);
+        }
+    }
+
+    private static void moreSeatsThanCandidates() {
+        SeatCounts x = new SeatCounts();
+        x.pile(0x2, 1);
+        x.pile(0x3, 4);
+        x.lot(0, 1);
+        for (int rule = 0; rule < 3; rule++) {
+            due.is("12 seats, rule " + rule, x.count(rule, 12), 1);
+            due.stage("12 seats", x, 0, 0, NONE, 0, 0, 3, 100000, 0);
+            due.elected("12 seats", x, 2, 1, 0);
+        }
+    }
+
+    private static void withdrawnOnes() {
+        for (int rule = 0; rule < 3; rule++) {
+            String at = "withdrawn, rule " + rule;
+            SeatCounts x = new SeatCounts();
+            x.candidates(4);
+            x.pile(0x21, 9);
+            x.pile(0x1, 50);
+            x.pile(0x3, 4);
+            x.pile(0x14, 3);
+            x.withdraw(0, true);
+            due.is(at, x.count(rule, 1), 1);
+            due.stage(at, x, 0, 0, NONE, 0, 0, 1, 900000, 0);
+            due.votes(at, x, 0, 0, 900000, 400000, 300000);
+            due.status(at, x, 0, 3, 1, 0, 0);
+            due.lies(at, x, 0, 0, 1, 100000);
+            due.lies(at, x, 0, 1, NONE, 0);
+            x.withdraw(0, false);
+            due.is(at + ": as it was then", x.status(0, 0), 3);
+        }
+    }
+
+    /** QUOTA exactly is enough to be ELECTED, and no surplus. */
+    private static void wholeQuota() {
+        SeatCounts x = new SeatCounts();
+        x.pile(0x21, 4);
+        x.pile(0x2, 2);
+        x.pile(0x3, 3);
+        due.is("4 of 9 for 2 seats", x.count(0, 2), 2);
+        due.stage("whole quota", x, 0, 0, NONE, 0, 0, 1, 400000, 0);
+        due.stage("whole quota", x, 1, 2, 1, 200000, 0, 2, 400000, 0);
+        due.elected("whole quota", x, 0, 2);
+    }
+
+    private static void refusals() {
+        SeatCounts x = new SeatCounts();
+        due.is("votes ahead of all COUNTS", x.votes(0, 0), UNKNOWN);
+        due.is("status ahead of all COUNTS", x.status(0, 0), UNKNOWN);
+        due.is("stage ahead of all COUNTS", x.stage(0, 99), UNKNOWN);
+        due.is("keep ahead of all COUNTS", x.keep(0, 0), UNKNOWN);
+        due.is("lies ahead of all COUNTS", x.lies(0, 0, 9), UNKNOWN);
+        int[][] wrong = {{-1, 1}, {4, 1}, {0, 0}, {0, 13}, {Integer.MAX_VALUE, 1}, {0, Integer.MIN_VALUE}};
+        for (int[] w : wrong) {
+            due.is("count(" + w[0] + ", " + w[1] + ")", x.count(w[0], w[1]), OUTSIDE);
+        }
+        due.is("no COUNT yet", x.told(3), 0);
+        x.pile(0x1, 2);
+        x.pile(0x2, 1);
+        due.is("count(0, 1)", x.count(0, 1), 1);
+        x.pile(0x3, 1);
+        due.is("stage(1, 0)", x.stage(1, 0), UNKNOWN);
+        due.is("stage(-1, 9): UNKNOWN comes first", x.stage(-1, 9), UNKNOWN);
+        due.is("stage(0, 7)", x.stage(0, 7), OUTSIDE);
+        due.is("stage(0, -1)", x.stage(0, -1), OUTSIDE);
+        due.is("votes(0, 3)", x.votes(0, 3), UNKNOWN);
+        due.is("votes(0, -1)", x.votes(0, -1), UNKNOWN);
+        due.is("votes(1, 0)", x.votes(1, 0), UNKNOWN);
+        due.is("votes(-1, 0)", x.votes(-1, 0), UNKNOWN);
+        due.is("status(0, 3)", x.status(0, 3), UNKNOWN);
+        due.is("status(1, 0)", x.status(1, 0), UNKNOWN);
+        due.is("elected(-1)", x.elected(-1), NONE);
+        due.is("elected(MAX)", x.elected(Integer.MAX_VALUE), NONE);
+        due.is("keep(0, 0)", x.keep(0, 0), STATE);
+        due.is("keep(0, 3): UNKNOWN comes first", x.keep(0, 3), UNKNOWN);
+        due.is("lies(0, 2, 0), not there then", x.lies(0, 2, 0), UNKNOWN);
+        due.is("lies(0, -1, 5): UNKNOWN comes first", x.lies(0, -1, 5), UNKNOWN);
+        due.is("lies(1, 0, 0)", x.lies(1, 0, 0), UNKNOWN);
+        due.is("lies(0, 0, 2)", x.lies(0, 0, 2), OUTSIDE);
+        due.is("lies(0, 0, -1)", x.lies(0, 0, -1), OUTSIDE);
+    }
+
+    private static void countStays() {
+        SeatCounts x = new SeatCounts();
+        x.pile(0x1, 2);
+        x.count(1, 2);
+        for (int c = 0; c < 3; c++) {
+            x.withdraw(c, true);
+        }
+        due.is("all are withdrawn", x.count(0, 1), STATE);
+        due.is("OUTSIDE comes first", x.count(0, 0), OUTSIDE);
+        due.is("the COUNT ahead stays", x.told(5), 1);
+        due.is("its votes stay", x.votes(0, 0), 200000);
+        due.is("its status stays", x.status(0, 0), 1);
+        due.is("its order stays", x.elected(0), 0);
+    }
+}
