@@ -692,10 +692,13 @@ public final class SeatCounts {
 
         private void dealFirst(House house, Journal journal) {
             for (int pile = 0; pile < piles; pile++) {
-                send(house, journal, pile, PAPER_UNITS);
+                holders[pile] = NONE;
+                values[pile] = 0;
+                // a PILE that is not VALID has no NEXT one, but is not NOT TRANSFERABLE: it is not counted
+                if (house.isValid(pile)) {
+                    send(house, journal, pile, PAPER_UNITS);
+                }
             }
-            // what went nowhere here is of PILES that are not VALID, and those are not counted
-            journal.untransferable[0] = 0;
         }
 
         private void putOut(House house, Journal journal, int who) {

@@ -9,6 +9,8 @@ public final class KeepCountTest {
         quotaSinks();
         outWithSmallExcess();
         belowQuotaIsNoExcess();
+        quotaIsCut();
+        edgeOfExcess();
         noProgress();
         noVotesAndStage60();
         severalForcedOut();
@@ -89,6 +91,38 @@ public final class KeepCountTest {
         due.stage("below quota", x, 2, 3, NONE, 0, 0, 3, 1600001, 3199998);
         keeps("below quota", x, 3, 333335, 250002, 1000000, 200001, 1000000);
         due.elected("below quota", x, 3, 1, 0, 2);
+    }
+
+    /** 5000000 by 3 is 1666666, cut, and 1. */
+    private static void quotaIsCut() {
+        SeatCounts x = new SeatCounts();
+        x.pile(0x1, 2);
+        x.pile(0x2, 2);
+        x.pile(0x3, 1);
+        due.is("cut", x.count(3, 2), 1);
+        due.stage("cut", x, 0, 3, NONE, 0, 0, 2, 1666667, 0);
+        due.elected("cut", x, 0, 1);
+    }
+
+    /** EXCESS of 1000 is not below 1000, 999 is. */
+    private static void edgeOfExcess() {
+        SeatCounts x = new SeatCounts();
+        x.candidates(5);
+        x.pile(0x2, 417);
+        due.is("1000", x.count(3, 4), 11);
+        due.stage("1000", x, 8, 3, NONE, 416998749, 0, 1, 251, 1000);
+        keeps("1000", x, 8, 1000000, 3, 1000000, 1000000, 1000000);
+        keeps("1000", x, 9, 1000000, 1, 1000000, 1000000, 1000000);
+        due.stage("1000", x, 9, 4, 4, 416999583, 0, 1, 84, 333);
+        due.elected("1000", x, 1, 0, 2, 3);
+
+        x.candidates(6);
+        x.pile(0x2, 1);
+        x.pile(0x4123, 7);
+        due.is("999", x.count(3, 5), 25);
+        due.stage("999", x, 22, 3, NONE, 7995512, 0, 4, 749, 1492);
+        due.stage("999", x, 23, 4, 5, 7996993, 0, 4, 502, 999);
+        due.elected("999", x, 2, 1, 0, 3, 4);
     }
 
     /** The KEEP can't fall below 1, so EXCESS stays at 1168, above 1000, from STAGE 14 to 15. */

@@ -9,6 +9,9 @@ public final class PaperCountTest {
         twoSurplusesByEachRule();
         lastParcelsBelowSurplus();
         lastParcelsWithoutNext();
+        lastParcelsOfLikeWorth();
+        lastParcelOfOnePaper();
+        rowsUsedAgain();
         surplusesInOrder();
         tiesByLots();
         tiesByLatestStage();
@@ -146,6 +149,89 @@ public final class PaperCountTest {
             due.is(at + ": who has nothing goes OUT first", x.stage(2, 1), 3);
             due.is(at + ": then the next", x.stage(3, 1), 1);
             due.elected(at, x, 0, 2);
+        }
+    }
+
+    /**
+     * QUOTA 20. 3 goes OUT at STAGE 3 and brings 1 4 papers at 50000 and 3 at 100000 that go on to
+     * 2, and one that does not. Together those 7 are worth the surplus of 5: not above it, so each
+     * goes with its own value, and nothing is added to what is NOT TRANSFERABLE since STAGE 2.
+     */
+    private static void lastParcelsOfLikeWorth() {
+        SeatCounts x = new SeatCounts();
+        x.candidates(7);
+        x.pile(0x7, 1);
+        x.pile(0x3241, 4);
+        x.pile(0x51, 36);
+        x.pile(0x324, 3);
+        x.pile(0x24, 1);
+        x.pile(0x2, 19);
+        x.pile(0x3, 7);
+        x.pile(0x6, 8);
+        due.is("like worth", x.count(2, 3), 7);
+        due.stage("like worth", x, 1, 1, 0, 0, 0, 1, 2000000, 0);
+        due.votes("like worth", x, 1, 2000000, 1900000, 700000, 600000, 1800000, 800000, 100000);
+        due.stage("like worth", x, 2, 2, 6, 100000, 0, 1, 2000000, 0);
+        due.stage("like worth", x, 3, 2, 3, 100000, 0, 2, 2000000, 0);
+        due.votes("like worth", x, 3, 2000000, 2500000, 700000, 0, 1800000, 800000, 0);
+        due.lies("like worth", x, 3, 1, 1, 50000);
+        due.stage("like worth", x, 4, 1, 1, 100000, 0, 2, 2000000, 0);
+        due.votes("like worth", x, 4, 2000000, 2000000, 1200000, 0, 1800000, 800000, 0);
+        due.lies("like worth", x, 4, 1, 2, 50000);
+        due.lies("like worth", x, 4, 3, 2, 100000);
+        due.lies("like worth", x, 4, 4, 1, 100000);
+        due.lies("like worth", x, 4, 5, 1, 100000);
+        due.stage("like worth", x, 6, 2, 2, 2100000, 0, 3, 2000000, 0);
+        due.lies("like worth", x, 6, 1, NONE, 0);
+        due.elected("like worth", x, 0, 1, 4);
+    }
+
+    /** QUOTA 20. 1 has 19.5 till 3 goes OUT and brings one paper, which goes on with the half that is over. */
+    private static void lastParcelOfOnePaper() {
+        SeatCounts x = new SeatCounts();
+        x.candidates(6);
+        x.pile(0x21, 39);
+        x.pile(0x31, 1);
+        x.pile(0x3, 2);
+        x.pile(0x324, 1);
+        x.pile(0x5, 17);
+        x.pile(0x6, 19);
+        due.is("one paper", x.count(2, 3), 6);
+        due.votes("one paper", x, 1, 2000000, 1950000, 250000, 100000, 1700000, 1900000);
+        due.votes("one paper", x, 2, 2000000, 2050000, 250000, 0, 1700000, 1900000);
+        due.stage("one paper", x, 3, 1, 1, 0, 0, 2, 2000000, 0);
+        due.votes("one paper", x, 3, 2000000, 2000000, 300000, 0, 1700000, 1900000);
+        due.lies("one paper", x, 3, 3, 2, 50000);
+        due.lies("one paper", x, 3, 0, 1, 50000);
+        due.stage("one paper", x, 4, 2, 2, 300000, 0, 2, 2000000, 0);
+        due.elected("one paper", x, 0, 1, 5);
+    }
+
+    /** A COUNT tells nothing of the one ahead of it, whichever RULE that was by. */
+    private static void rowsUsedAgain() {
+        for (int ahead = 0; ahead < 4; ahead++) {
+            for (int rule = 0; rule < 2; rule++) {
+                String at = "rule " + rule + " behind rule " + ahead;
+                SeatCounts x = new SeatCounts();
+                x.candidates(4);
+                x.pile(0x321, 50);
+                x.pile(0x1, 10);
+                x.pile(0x32, 20);
+                x.pile(0x3, 22);
+                x.pile(0x14, 18);
+                x.count(ahead, 2);
+                due.is(at, x.count(rule, 2), 4);
+                due.stage(at, x, 0, 0, NONE, 0, 0, 1, 4100000, 0);
+                due.stage(at, x, 1, 1, 0, 316660, 40, 1, 4100000, 0);
+                due.stage(at, x, 3, 2, 2, 4316660, 40, 2, 4100000, 0);
+                due.lies(at, x, 0, 0, 0, 100000);
+                due.lies(at, x, 0, 4, 3, 100000);
+                due.elected(at, x, 0, 1);
+                x.withdraw(2, true);
+                due.is(at, x.count(rule, 3), 1);
+                due.lies(at, x, 0, 3, NONE, 0);
+                due.lies(at, x, 0, 2, 1, 100000);
+            }
         }
     }
 
