@@ -109,8 +109,8 @@ public final class LanguageTest {
     private static void text(String source) {
         String code = source.replaceAll("(?s)/\\*.*?\\*/", "").replaceAll("//[^\n]*", "");
         String[] words = {
-            "throw", "throws", "try", "catch", "finally", "synchronized", "assert", "import", "package", "double",
-            "float", "protected", "goto", "native", "Exception", "Error", "while", "System\\.(?!arraycopy)\\w+",
+            "throw", "throws", "try", "catch", "finally", "synchronized", "assert", "import", "package",
+            "protected", "native", "Exception", "Error", "System\\.(?!arraycopy)\\w+",
         };
         for (String word : words) {
             due.holds("no " + word, !Pattern.compile("\\b" + word + "\\b").matcher(code).find());
