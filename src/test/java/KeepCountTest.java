@@ -1,4 +1,7 @@
-/** Promises 8 to 14 by RULE 3. */
+/**
+ * Promises 8 to 14 by RULE 3. Where a test says so, its numbers are reckoned by hand; those of the
+ * long counts were found by search and are agreed by PlainModel.
+ */
 public final class KeepCountTest {
     private static final int NONE = SeatCounts.NONE, UNKNOWN = SeatCounts.UNKNOWN;
     private static final int OUTSIDE = SeatCounts.OUTSIDE, STATE = SeatCounts.STATE;
