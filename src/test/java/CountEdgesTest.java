@@ -1,3 +1,5 @@
+import java.util.List;
+
 /**
  * Promises 8 to 14, what does not hang on a RULE's numbers: count, stage, votes, status, elected, keep,
  * lies. A test for each sentence that has an edge.
@@ -17,6 +19,7 @@ public final class CountEdgesTest {
         pilesAsTheyAre();
         howManyStages();
         shorterBehindLonger();
+        nothingLeftOver();
         stageUnknown();
         stageOutside();
         stageKinds();
@@ -170,6 +173,40 @@ public final class CountEdgesTest {
             due.is("lies(0, 1, 0)", x.lies(0, 1, 0), UNKNOWN);
             due.is("lies(1, 0, 0)", x.lies(1, 0, 0), UNKNOWN);
             due.elected("shorter", x, 0);
+        }
+    }
+
+    /** 12 CANDIDATES who need many STAGES, or 3 or 8 of whom some are ELECTED soon. */
+    private static Run house(Run run, int size) {
+        Run house = run.then(x -> x.candidates(size));
+        if (size == 12) {
+            for (int k = 0; k < 12; k++) {
+                long preferences = 1 + k | (1 + (k + 5) % 12) << 4 | (1 + (k + 3) % 12) << 8;
+                int papers = 10 + k * k;
+                house = house.then(x -> x.pile(preferences, papers));
+            }
+            return house;
+        }
+        return house.then(x -> x.pile(0x321, 200)).then(x -> x.pile(0x12, 30)).then(x -> x.pile(0x3, 9));
+    }
+
+    /** Whatever COUNT was ahead, of more or of fewer, by which RULE: all is told as by a new object. */
+    private static void nothingLeftOver() {
+        int[] sizes = {3, 8, 12};
+        for (int size : sizes) {
+            for (int rule = 0; rule < 4; rule++) {
+                int by = rule;
+                int seats = size / 2 + 1;
+                List<Long> alone = Look.at(house(new Run(), size).then(x -> x.count(by, seats)));
+                for (int ahead = 0; ahead < sizes.length * 4; ahead++) {
+                    int aheadBy = ahead % 4;
+                    int aheadSize = sizes[ahead / 4];
+                    Run first = house(new Run(), aheadSize).then(x -> x.count(aheadBy, aheadSize / 3));
+                    Run both = house(first, size).then(x -> x.count(by, seats));
+                    due.holds("RULE " + rule + " of " + size + " behind RULE " + aheadBy + " of " + aheadSize,
+                            Look.at(both).equals(alone));
+                }
+            }
         }
     }
 

@@ -1,3 +1,7 @@
+import java.util.ArrayList;
+import java.util.List;
+import java.util.function.ToLongFunction;
+
 /** As many CANDIDATES, PILES and papers as there may be, and arguments from all over the numbers. */
 public final class FullHouseTest {
     private static final int[] ODD = {
@@ -10,6 +14,7 @@ public final class FullHouseTest {
         allUnitsAreSomewhere();
         mostVotes();
         pairs();
+        eachPileAtEachStage();
         stages();
         oddArguments();
         due.end();
@@ -97,6 +102,38 @@ public final class FullHouseTest {
         due.is("told(2)", x.told(2), 0);
         due.is("winner()", x.winner(), SeatCounts.NONE);
         due.is("count", x.count(0, 1), SeatCounts.STATE);
+    }
+
+    /**
+     * 80 PILES over 12 STAGES. c has 20 - c papers in each of its PILES, so they go OUT from 11 down; the
+     * PILES of odd ones go on to 0, which has 575 of 1176 papers till 1 goes OUT, the others nowhere.
+     */
+    private static void eachPileAtEachStage() {
+        Run run = new Run().then(x -> x.candidates(12));
+        for (int k = 0; k < 80; k++) {
+            int c = k % 12;
+            run = run.then(x -> x.pile(c % 2 == 1 ? 0x10 | c + 1 : c + 1, 20 - c));
+        }
+        for (int rule = 0; rule < 3; rule++) {
+            int by = rule;
+            due.is("80 PILES, rule " + rule, run.made().count(rule, 1), 12);
+            List<ToLongFunction<SeatCounts>> questions = new ArrayList<>();
+            for (int k = 0; k < 12 * 80; k++) {
+                int stage = k / 80;
+                int pile = k % 80;
+                questions.add(x -> x.lies(stage, pile, 0));
+                questions.add(x -> x.lies(stage, pile, 1));
+            }
+            long[] got = run.then(x -> x.count(by, 1)).answers(questions);
+            for (int k = 0; k < 12 * 80; k++) {
+                int c = k % 80 % 12;
+                boolean hopeful = c < 12 - k / 80;
+                long holder = hopeful ? c : c % 2 == 1 ? 0 : SeatCounts.NONE;
+                String at = "STAGE " + k / 80 + ", PILE " + k % 80 + ", rule " + rule;
+                due.is(at + ": with whom", got[2 * k], holder);
+                due.is(at + ": value", got[2 * k + 1], holder == SeatCounts.NONE ? 0 : 100000);
+            }
+        }
     }
 
     /** 12 CANDIDATES without a paper, one seat: 11 go OUT. */

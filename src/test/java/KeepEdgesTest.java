@@ -1,7 +1,7 @@
 /**
  * The edges of a COUNT by RULE 3, a test for each sentence of the document that has one. The numbers are
- * reckoned by hand, but for those of electedBehindStage60, which is too long for that, and the way to
- * STAGE 16 in keepWithoutVotes.
+ * reckoned by hand, but for those of electedBehindStage60, which is too long for that, and the ways to
+ * STAGE 16 in keepWithoutVotes and to STAGE 15 in keepWithOneUnit.
  */
 public final class KeepEdgesTest {
     private static final int NONE = SeatCounts.NONE, STATE = SeatCounts.STATE;
@@ -31,6 +31,7 @@ public final class KeepEdgesTest {
         electedBehindStage60();
         keepIsAMillionAtMost();
         keepWithoutVotes();
+        keepWithOneUnit();
         due.end();
     }
 
@@ -387,5 +388,17 @@ public final class KeepEdgesTest {
         keeps("no votes", x, 19, 1, 1000000, 1000000, 1000000, 0);
         due.stage("no votes", x, 19, 3, NONE, 0, 0, 4, 400000001, 0);
         due.elected("no votes", x, 0, 1, 2, 3);
+    }
+
+    /** One unit is not none: KEEP 1 x 123 by 1, and 1. How it came to be so is too long to reckon by hand. */
+    private static void keepWithOneUnit() {
+        SeatCounts x = house(12, 0x3124, 491, 0x3, 1);
+        x.count(3, 11);
+        due.is("one unit, QUOTA", x.stage(15, 5), 123);
+        due.is("one unit, votes", x.votes(15, 2), 1);
+        due.is("one unit, status", x.status(15, 2), 1);
+        due.is("one unit, KEEP", x.keep(15, 2), 1);
+        due.is("one unit, nobody OUT", x.stage(15, 0), 3);
+        due.is("one unit, KEEP then", x.keep(16, 2), 124);
     }
 }

@@ -17,6 +17,7 @@ public final class PairsTest {
         leadsItselfToo();
         leadsByOnePaper();
         leadsAlongAChain();
+        leadsRoundARing();
         leadsPastWithdrawn();
         leadsUnknown();
         points();
@@ -180,30 +181,56 @@ public final class PairsTest {
         due.is("no PILES", new SeatCounts().leads(0), 0);
     }
 
-    /** 11 beats 10, 10 beats 9 and so on; all others are alike, so each leads on only through the next. */
+    /** Two PILES by which a is preferred to b, and all others are alike. */
+    private static void addPair(SeatCounts x, int a, int b) {
+        long upwards = 0;
+        long downwards = 0;
+        for (int other = 0; other < 12; other++) {
+            if (other != a && other != b) {
+                downwards = downwards << 4 | (other + 1);
+                upwards = upwards >> 4 | (long) (other + 1) << 36;
+            }
+        }
+        long pair = (long) (b + 1) << 4 | (a + 1);
+        x.pile(upwards << 8 | pair, 5);
+        x.pile(pair << 40 | downwards, 5);
+    }
+
+    /** Each is preferred to the next one alone, so it leads on only through that; up the numbers, and down. */
     private static void leadsAlongAChain() {
-        SeatCounts x = new SeatCounts();
-        x.candidates(12);
-        for (int c = 1; c < 12; c++) {
-            long upwards = 0;
-            long downwards = 0;
-            for (int other = 0; other < 12; other++) {
-                if (other != c && other != c - 1) {
-                    downwards = downwards << 4 | (other + 1);
-                    upwards = upwards >> 4 | (long) (other + 1) << 36;
+        for (int way = -1; way <= 1; way += 2) {
+            SeatCounts x = new SeatCounts();
+            x.candidates(12);
+            for (int c = 0; c < 12; c++) {
+                if (c + way >= 0 && c + way < 12) {
+                    addPair(x, c, c + way);
                 }
             }
-            long pair = (long) c << 4 | (c + 1);
-            x.pile(upwards << 8 | pair, 5);
-            x.pile(pair << 40 | downwards, 5);
+            due.is("the chain's PILES", x.told(1), 22);
+            for (int c = 0; c < 12; c++) {
+                due.is("the chain, leads(" + c + ")", x.leads(c), way > 0 ? 11 - c : c);
+            }
+            x.withdraw(5, true);
+            for (int c = 0; c < 12; c++) {
+                int down = c < 5 ? c : c - 6;
+                int up = c > 5 ? 11 - c : 4 - c;
+                due.is("the broken chain, leads(" + c + ")", x.leads(c), c == 5 ? 0 : way > 0 ? up : down);
+            }
         }
-        due.is("the chain's PILES", x.told(1), 22);
-        for (int c = 0; c < 12; c++) {
-            due.is("the chain, leads(" + c + ")", x.leads(c), c);
-        }
-        x.withdraw(5, true);
-        for (int c = 0; c < 12; c++) {
-            due.is("the broken chain, leads(" + c + ")", x.leads(c), c < 5 ? c : c == 5 ? 0 : c - 6);
+    }
+
+    /** The last of 12 leads back, so that each leads to all, itself, too. */
+    private static void leadsRoundARing() {
+        for (int way = 1; way < 12; way += 10) {
+            SeatCounts x = new SeatCounts();
+            x.candidates(12);
+            for (int c = 0; c < 12; c++) {
+                addPair(x, c, (c + way) % 12);
+            }
+            for (int c = 0; c < 12; c++) {
+                due.is("the ring, leads(" + c + ")", x.leads(c), 12);
+            }
+            due.is("the ring's winner", x.winner(), NONE);
         }
     }
 

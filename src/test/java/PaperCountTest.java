@@ -229,25 +229,33 @@ public final class PaperCountTest {
         }
     }
 
-    /** The larger surplus goes first, though the other one has the lower number and LOT. */
+    /**
+     * The larger surplus goes first, though the other one has the lower number and LOT. By RULE 2 the other
+     * one's latest parcel is that of STAGE 0 still, though papers came to 3 at STAGE 1.
+     */
     private static void surplusesInOrder() {
-        SeatCounts x = new SeatCounts();
-        x.candidates(6);
-        x.pile(0x31, 30);
-        x.pile(0x42, 40);
-        x.pile(0x5, 10);
-        x.pile(0x6, 10);
-        due.is("two at once", x.count(0, 3), 6);
-        due.is("QUOTA", x.stage(0, 5), 2300000);
-        due.elected("two at once", x, 1, 0, 3);
-        due.stage("two at once", x, 1, 1, 1, 0, 0, 2, 2300000, 0);
-        due.stage("two at once", x, 2, 1, 0, 0, 10, 2, 2300000, 0);
-        due.is("lies nowhere else", x.lies(1, 0, 0), 0);
-        due.is("value of 40", x.lies(1, 1, 1), 42500);
-        due.is("value of 30", x.lies(2, 0, 1), 23333);
-        due.is("who goes OUT", x.stage(3, 1), 2);
-        due.is("of two alike", x.stage(4, 1), 5);
-        due.is("and then", x.stage(5, 1), 4);
+        for (int rule = 0; rule < 3; rule++) {
+            String at = "two at once, rule " + rule;
+            SeatCounts x = new SeatCounts();
+            x.candidates(6);
+            x.pile(0x31, 30);
+            x.pile(0x42, 40);
+            x.pile(0x5, 10);
+            x.pile(0x6, 10);
+            due.is(at, x.count(rule, 3), 6);
+            due.is(at + ": QUOTA", x.stage(0, 5), 2300000);
+            due.elected(at, x, 1, 0, 3);
+            due.stage(at, x, 1, 1, 1, 0, 0, 2, 2300000, 0);
+            due.votes(at, x, 1, 3000000, 2300000, 0, 1700000, 1000000, 1000000);
+            due.lies(at, x, 1, 0, 0, 100000);
+            due.lies(at, x, 1, 1, 3, 42500);
+            due.stage(at, x, 2, 1, 0, 0, 10, 2, 2300000, 0);
+            due.votes(at, x, 2, 2300000, 2300000, 699990, 1700000, 1000000, 1000000);
+            due.lies(at, x, 2, 0, 2, 23333);
+            due.is(at + ": who goes OUT", x.stage(3, 1), 2);
+            due.is(at + ": of two alike", x.stage(4, 1), 5);
+            due.is(at + ": and then", x.stage(5, 1), 4);
+        }
     }
 
     private static void tiesByLots() {

@@ -14,6 +14,7 @@ public final class SheetTest {
         forgeTouchesNothingElse();
         checkAsMade();
         checkEachNumber();
+        checkEachOf12();
         checkFirstStage();
         checkLastOfManyStages();
         refusedCountLeavesIt();
@@ -152,6 +153,23 @@ public final class SheetTest {
         }
     }
 
+    /** 12 CANDIDATES, 12 STAGES: all places that such a SHEET has. */
+    private static void checkEachOf12() {
+        for (int rule = 0; rule < 4; rule++) {
+            SeatCounts x = new SeatCounts();
+            x.candidates(12);
+            due.is("12 stages", x.count(rule, 1), 12);
+            for (int i = 0; i < 12; i++) {
+                for (int c = 0; c < 12; c += 11) {
+                    due.is("forge(" + i + ", " + c + ")", x.forge(i, c, 1), 0);
+                    due.is("check() of " + i + ", " + c, x.check(), -20 - i);
+                    due.is("forge(" + i + ", " + c + ") back", x.forge(i, c, 0), 1);
+                }
+            }
+            due.is("check() in the end", x.check(), 1);
+        }
+    }
+
     private static void checkFirstStage() {
         SeatCounts x = counted(0);
         x.forge(1, 0, 1);
@@ -164,13 +182,9 @@ public final class SheetTest {
         due.is("none", x.check(), 1);
     }
 
-    /** 12 CANDIDATES, 1 seat: 12 STAGES. And a COUNT by RULE 3 with 62 (see KeepCountTest). */
+    /** A COUNT by RULE 3 with 62 STAGES (see KeepCountTest). */
     private static void checkLastOfManyStages() {
         SeatCounts x = new SeatCounts();
-        x.candidates(12);
-        due.is("12 stages", x.count(0, 1), 12);
-        due.is("the last number", x.forge(11, 11, 1), 0);
-        due.is("check()", x.check(), -31);
         x.candidates(8);
         x.pile(0x12, 294);
         x.pile(0x12, 262);
