@@ -28,6 +28,9 @@ public final class KeepEdgesTest {
         excessBelowByOne();
         electedWithSmallExcess();
         electedWithLikeExcess();
+        stage60();
+        stage61();
+        stage60BehindAnOut();
         electedBehindStage60();
         keepIsAMillionAtMost();
         keepWithoutVotes();
@@ -355,6 +358,69 @@ public final class KeepEdgesTest {
         due.stage("like, elected", x, 1, 3, NONE, 0, 0, 2, 1000001, 1999998);
         due.votes("like, elected", x, 2, 1000000, 1000004, 2999996, 0, 0);
         due.stage("like, elected", x, 2, 3, NONE, 0, 0, 3, 1000001, 1999998);
+    }
+
+    /** The first so many have a PILE of 500 papers each, with nobody behind, the others have nothing. */
+    private static SeatCounts alone(int candidates, int ofThem) {
+        SeatCounts x = house(candidates);
+        for (int c = 0; c < ofThem; c++) {
+            x.pile(c + 1, 500);
+        }
+        return x;
+    }
+
+    /**
+     * Of a house with so many alone, who are ELECTED at STAGE 0: all keep the same, reckoned here, and EXCESS
+     * falls from ROUND to ROUND, but never below 1000, so that nobody goes OUT ahead of a STAGE.
+     */
+    private static void allSinkTill(String at, SeatCounts x, int ofThem, int seats, int stage) {
+        long keep = 1000000;
+        for (int i = 0; i < stage; i++) {
+            long votes = 500 * keep;
+            long quota = ofThem * votes / (seats + 1) + 1;
+            due.is(at + " keep(" + i + ", 0)", x.keep(i, 0), keep);
+            due.is(at + " keep(" + i + ", last)", x.keep(i, ofThem - 1), keep);
+            due.stage(at, x, i, 3, NONE, ofThem * (500000000 - votes), 0, ofThem, quota, ofThem * (votes - quota));
+            keep = keep * quota / votes + 1;
+        }
+        due.is(at + " keep(" + stage + ", 0)", x.keep(stage, 0), keep);
+    }
+
+    /** "If it is STAGE 60": EXCESS fell to 17490, which is no reason to put anybody OUT, but for the STAGE. */
+    private static void stage60() {
+        SeatCounts x = alone(12, 10);
+        due.is("60", x.count(3, 11), 62);
+        allSinkTill("60", x, 10, 11, 60);
+        due.is("60, KEEP ahead", x.keep(59, 0), 25);
+        due.is("60, KEEP", x.keep(60, 0), 21);
+        due.stage("60", x, 59, 3, NONE, 4999875000L, 0, 10, 10417, 20830);
+        due.stage("60", x, 60, 4, 11, 4999895000L, 0, 10, 8751, 17490);
+        due.is("60, KEEP stays", x.keep(61, 0), 21);
+        due.stage("60", x, 61, 3, NONE, 4999895000L, 0, 11, 8751, 0);
+        due.elected("60", x, 0, 1, 2, 3, 4, 5, 6, 7, 8, 9, 10);
+    }
+
+    /** "or one behind that": STAGE 61, too, though EXCESS is like behind an OUT. */
+    private static void stage61() {
+        SeatCounts x = alone(12, 9);
+        due.is("61", x.count(3, 10), 63);
+        allSinkTill("61", x, 9, 10, 60);
+        due.stage("61", x, 60, 4, 11, 4499959500L, 0, 9, 3682, 7362);
+        due.stage("61", x, 61, 4, 10, 4499959500L, 0, 9, 3682, 7362);
+        due.stage("61", x, 62, 3, NONE, 4499959500L, 0, 10, 3682, 0);
+        due.elected("61", x, 0, 1, 2, 3, 4, 5, 6, 7, 8, 9);
+    }
+
+    /** KEEP 5 stays 5, so EXCESS is like at STAGE 59. STAGE 60 would let it be, right behind an OUT, if it were not 60. */
+    private static void stage60BehindAnOut() {
+        SeatCounts x = alone(11, 8);
+        due.is("59", x.count(3, 9), 62);
+        allSinkTill("59", x, 8, 9, 59);
+        due.stage("59", x, 58, 3, NONE, 3999980000L, 0, 8, 2001, 3992);
+        due.stage("59", x, 59, 4, 10, 3999980000L, 0, 8, 2001, 3992);
+        due.stage("59", x, 60, 4, 9, 3999980000L, 0, 8, 2001, 3992);
+        due.stage("59", x, 61, 3, NONE, 3999980000L, 0, 9, 2001, 0);
+        due.elected("59", x, 0, 1, 2, 3, 4, 5, 6, 7, 8);
     }
 
     /** "If it is STAGE 60 or one behind that": somebody goes OUT, though another was ELECTED in that ROUND. */
