@@ -19,6 +19,7 @@ public final class KeepEdgesTest {
         oneMoreThanSeats();
         fewerThanSeats();
         endsWithHopefulOnes();
+        moreThanSeats();
         tiesByLotsAlone();
         keepOfOneThatIsOut();
         excessOf999();
@@ -203,6 +204,28 @@ public final class KeepEdgesTest {
         due.stage("ends", x, 0, 3, NONE, 0, 0, 1, 25500001, 0);
         due.status("ends", x, 0, 1, 0, 0, 0);
         due.elected("ends", x, 0);
+    }
+
+    /**
+     * "HOPEFUL ones with QUOTA or more are ELECTED": all of them, even if that is more than the seats. QUOTA
+     * stays 30000001. 1 has 102 papers, then keeps 294118 of each; 0 gets the rests of 705882, then keeps
+     * 416667 parts, which is 294117, cut: 67 units short of QUOTA. What is left, 411765 of each of 51 papers,
+     * and 9 papers bring 2 and 3 30000015 each in the same ROUND, so that 4 are ELECTED for 3 seats.
+     */
+    private static void moreThanSeats() {
+        for (int lot = 2; lot < 4; lot++) {
+            SeatCounts x = house(5, 0x3, 9, 0x4, 9, 0x312, 51, 0x412, 51);
+            x.lot(2, lot);
+            due.is("more than seats", x.count(3, 3), 3);
+            due.stage("more than seats", x, 0, 3, NONE, 0, 0, 1, 30000001, 71999999);
+            due.votes("more than seats", x, 1, 71999964, 30000036, 9000000, 9000000, 0);
+            due.stage("more than seats", x, 1, 3, NONE, 0, 0, 2, 30000001, 41999998);
+            keeps("more than seats", x, 2, 416667, 294118, 1000000, 1000000, 1000000);
+            due.votes("more than seats", x, 2, 29999934, 30000036, 30000015, 30000015, 0);
+            due.stage("more than seats", x, 2, 3, NONE, 0, 0, 4, 30000001, 0);
+            due.status("more than seats", x, 2, 1, 1, 1, 1, 0);
+            due.elected("more than seats", x, 1, 0, lot == 2 ? 2 : 3, lot == 2 ? 3 : 2);
+        }
     }
 
     /**

@@ -3,6 +3,8 @@ import java.util.Random;
 /** Random runs of calls, each answer held against PlainModel's; the seeds are fixed, so it is always the same. */
 public final class RandomRunsTest {
     private static final int RUNS = 1200;
+    private static final int MIRRORED_RUNS = 600;
+    private static final int MIRRORED_CANDIDATES = 5;
     private static final int[] ODD = {Integer.MIN_VALUE, -10, -1, 0, 1, 2, 11, 12, 13, 79, 80, 500, 501, Integer.MAX_VALUE};
 
     private final Random random;
@@ -21,9 +23,14 @@ public final class RandomRunsTest {
         long calls = 0;
         int[] byKind = new int[5];
         int longest = 0;
-        for (int seed = 1; seed <= RUNS; seed++) {
+        int moreThanSeats = 0;
+        for (int seed = 1; seed <= RUNS + MIRRORED_RUNS; seed++) {
             RandomRunsTest run = new RandomRunsTest(seed);
-            run.go();
+            if (seed <= RUNS) {
+                run.go();
+            } else {
+                moreThanSeats += run.goMirrored();
+            }
             calls += run.calls;
             for (int i = 0; i < run.x.told(3); i++) {
                 byKind[(int) run.x.stage(i, 0)]++;
@@ -35,7 +42,8 @@ public final class RandomRunsTest {
             }
         }
         System.out.println("RandomRunsTest: " + calls + " calls as the model's; last counts' stages by kind "
-                + java.util.Arrays.toString(byKind) + ", longest count " + longest);
+                + java.util.Arrays.toString(byKind) + ", longest count " + longest
+                + ", with more ELECTED than seats " + moreThanSeats);
     }
 
     private void same(String call, long got, long want) {
@@ -71,6 +79,43 @@ public final class RandomRunsTest {
                 ask();
             }
         }
+    }
+
+    /**
+     * For each PILE there is one with two CANDIDATES in each other's places, so that these reach QUOTA in one
+     * ROUND: in how many counts that made more ELECTED than there are seats.
+     */
+    private int goMirrored() {
+        int found = 0;
+        while (calls < 480 && !failed) {
+            n = MIRRORED_CANDIDATES;
+            same("candidates(" + n + ")", x.candidates(n), model.candidates(n));
+            for (int k = 1 + below(3); k > 0; k--) {
+                addMirroredPiles(1 + below(500));
+            }
+            int seats = 2 + below(2);
+            same("count(3, " + seats + ")", x.count(3, seats), model.count(3, seats));
+            found += x.told(4) > seats ? 1 : 0;
+            lookAtAll();
+        }
+        return found;
+    }
+
+    private void addMirroredPiles(int papers) {
+        int[] all = new int[n];
+        for (int k = 0; k < n; k++) {
+            int to = below(k + 1);
+            all[k] = all[to];
+            all[to] = k + 1;
+        }
+        long preferences = 0;
+        long mirror = 0;
+        for (int c : all) {
+            preferences = preferences << 4 | c;
+            mirror = mirror << 4 | (c == n ? n - 1 : c == n - 1 ? n : c);
+        }
+        same("pile(" + preferences + ", " + papers + ")", x.pile(preferences, papers), model.pile(preferences, papers));
+        same("pile(" + mirror + ", " + papers + ")", x.pile(mirror, papers), model.pile(mirror, papers));
     }
 
     private void setUp() {

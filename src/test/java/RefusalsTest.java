@@ -4,7 +4,7 @@ import java.util.function.ToLongFunction;
 
 /**
  * "REFUSALS, the first of these that fits: UNKNOWN, OUTSIDE, STATE, FULL. They change nothing."
- * In a dozen states: the first number that is refused on either side, which refusal comes first where
+ * In 15 states: the first number that is refused on either side, which refusal comes first where
  * several fit, and that all that the face tells is the same behind a refused call as ahead of it.
  */
 public final class RefusalsTest {
